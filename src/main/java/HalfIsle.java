@@ -67,8 +67,8 @@ public final class HalfIsle {
 
     private final int[] tape = new int[MOST_TAPE];
     private int taped = 0;
-    private final Reader text = new Reader(tape);
-    private final LawReader lawText = new LawReader(text);
+    private final DeedReader deedReader = new DeedReader();
+    private final LawReader lawReader = new LawReader();
     private int wrongByte = NONE;
 
     private final Island now = new Island();
@@ -118,10 +118,8 @@ public final class HalfIsle {
     }
 
     public int deed() throws IllegalArgumentException, UnsupportedOperationException {
-        text.open(usedTape());
         scratch.copyFrom(now);
-        DeedReader.readLines(text, scratch);
-        wrongByte = text.wrong;
+        wrongByte = deedReader.readText(tape, usedTape(), scratch);
         if (wrongByte != NONE) {
             throw new IllegalArgumentException("the text is wrong");
         }
@@ -135,9 +133,7 @@ public final class HalfIsle {
     }
 
     public int law() throws IllegalArgumentException {
-        text.open(usedTape());
-        lawText.readLines(spareRule);
-        wrongByte = text.wrong;
+        wrongByte = lawReader.readText(tape, usedTape(), spareRule);
         if (wrongByte != NONE) {
             throw new IllegalArgumentException("the text is wrong");
         }
@@ -1293,17 +1289,14 @@ public final class HalfIsle {
 
     /** Goes through a text thing by thing: a word, a number, another byte, or the end. */
     private static final class Reader {
-        private final int[] bytes;
+        private final int[] bytes = new int[MOST_TAPE];
         private int length = 0;
         private int begin = 0;
         private int end = 0;
         private int wrong = NONE;
 
-        Reader(int[] bytes) {
-            this.bytes = bytes;
-        }
-
-        void open(int n) {
+        void open(int[] tape, int n) {
+            copyRow(tape, bytes);
             length = Math.min(n, bytes.length);
             end = 0;
             wrong = NONE;
@@ -1388,32 +1381,37 @@ public final class HalfIsle {
 
     /** Reads a text of THE DEED straight into an island, which is no more of use if the text is wrong. */
     private static final class DeedReader {
-        static void readLines(Reader text, Island to) {
+        private final Reader text = new Reader();
+
+        /** The first wrong byte, NONE of a right text. */
+        int readText(int[] tape, int n, Island to) {
+            text.open(tape, n);
             boolean more = !text.isEnd();
             for (int line = 0; more && line <= DEED_LINES; line++) {
                 if (line == DEED_LINES) {
                     text.refuse();
                 } else {
-                    readLine(text, to);
+                    readLine(to);
                 }
                 more = text.isRight() && text.takes(";");
             }
             if (!text.isEnd()) {
                 text.refuse();
             }
+            return text.wrong;
         }
 
-        private static void readLine(Reader text, Island to) {
+        private void readLine(Island to) {
             if (text.isAt("item")) {
-                readItem(text, to);
+                readItem(to);
             } else if (text.takes("hands")) {
-                readCell(text, to.hands, SIDES, MOST_HANDS);
+                readCell(to.hands, SIDES, MOST_HANDS);
             } else if (text.takes("soil")) {
-                readCell(text, to.soil, ROOMS, MOST_SOIL);
+                readCell(to.soil, ROOMS, MOST_SOIL);
             } else if (text.takes("places")) {
-                readCell(text, to.places, ROOMS, MOST_PLACES);
+                readCell(to.places, ROOMS, MOST_PLACES);
             } else if (text.takes("worn")) {
-                readCell(text, to.worn, to.items, MOST_WORN);
+                readCell(to.worn, to.items, MOST_WORN);
             } else if (text.takes("storm")) {
                 to.storm = text.number(0, MOST_STORM);
             } else if (text.takes("day")) {
@@ -1423,12 +1421,12 @@ public final class HalfIsle {
             }
         }
 
-        private static void readCell(Reader text, int[] row, int cells, int most) {
+        private void readCell(int[] row, int cells, int most) {
             int cell = text.number(0, cells - 1);
             put(row, cell, text.number(0, most));
         }
 
-        private static void readItem(Reader text, Island to) {
+        private void readItem(Island to) {
             if (to.items >= MOST_ITEMS) {
                 text.refuse();
                 return;
@@ -1446,16 +1444,14 @@ public final class HalfIsle {
 
     /** Reads a text of THE LAW; what joins waits on a pile till what it joins has been read. */
     private static final class LawReader {
-        private final Reader text;
+        private final Reader text = new Reader();
         private final int[] waits = new int[MOST_WAITING];
         private int waiting = 0;
         private int deep = 0;
 
-        LawReader(Reader text) {
-            this.text = text;
-        }
-
-        void readLines(Law to) {
+        /** The first wrong byte, NONE of a right text. */
+        int readText(int[] tape, int n, Law to) {
+            text.open(tape, n);
             to.clear();
             boolean more = !text.isEnd();
             for (int line = 0; more && line <= LAW_LINES; line++) {
@@ -1469,6 +1465,7 @@ public final class HalfIsle {
             if (!text.isEnd()) {
                 text.refuse();
             }
+            return text.wrong;
         }
 
         private void readLine(Law to) {
