@@ -55,6 +55,9 @@ final class BoundsOfLaws extends Bounds {
             wrongLaw(new HalfIsle(), lines("soil 7", 13), 12 * 7);
             wrongLaw(new HalfIsle(), lines("soil 7", 12) + "; ", 12 * 7 + 1);
             is(one(lines("soil 7", 12)).does(0, 2), 84);
+            is(one(lines("wear 1 if item > 0", 12)).does(0, 0), 0);
+            is(one(lines("wear 1 if item > 0", 11) + "; wear 7 if item < 1").does(0, 0), 7);
+            is(one("wear 7 if item < 1;" + lines("wear 1 if item > 0", 11)).does(0, 0), 7);
         });
         test("Terms, numbers of THE LAW", "All numbers are of 1 to 3 digits (N 0 to 20).", () -> {
             rightLaw("wear 0; wear 20; shift 0; shift 20; soil 0; soil 20; soil 020", 7);
@@ -76,6 +79,14 @@ final class BoundsOfLaws extends Bounds {
             rightLaw("wear 1 if ((((((own)))))) and ((((((own)))))) or not not not not not not own", 1);
             rightLaw("wear 1 if ((((( (own) or not own and (home or home) )))))", 1);
             wrongLaw(new HalfIsle(), "wear 1 if ((((( not own and not (own) )))))", 32);
+            // each one with an or and an and that go on behind it
+            String open = "2<1 or 1<2 and (";
+            is(one("wear 1 if " + open.repeat(6) + "1<2" + ")".repeat(6)).does(0, 0), 1);
+            is(one("wear 1 if " + open.repeat(6) + "2<1" + ")".repeat(6)).does(0, 0), 0);
+            is(one("wear 1 if " + open.repeat(6) + "2<1 or 1<2 and 1<2" + ")".repeat(6)).does(0, 0), 1);
+            is(one("wear 1 if " + open.repeat(6) + "2<1 or 1<2 and 2<1" + ")".repeat(6)).does(0, 0), 0);
+            is(one("wear 1 if " + open.repeat(5) + "2<1 or 1<2 and not 1<2" + ")".repeat(5)).does(0, 0), 0);
+            wrongLaw(new HalfIsle(), "wear 1 if " + open.repeat(7), 10 + 6 * 16 + 15);
             // a wrong text leaves nothing open for the next one
             HalfIsle isle = new HalfIsle();
             wrongLaw(isle, "wear 1 if ((((((", 16);
@@ -105,6 +116,13 @@ final class BoundsOfLaws extends Bounds {
                         + " or soiled > 0; wear 4 if home and worn > 0 and soiled > 0");
                 is(isle.does(0, 0), (!(a || c) && b || c ? 1 : 0) + (set != 0 ? 2 : 0) + (set == 7 ? 4 : 0));
             }
+            // as many ATOMS as the TAPE has bytes for
+            String many = "wear1if2<1" + "or2<1".repeat(77);
+            is(one(many + "or2<1").does(0, 0), 0);
+            is(one(many + "or1<2").does(0, 0), 1);
+            is(one(many.replace("or2<1", "or1<2") + "or2<1").does(0, 0), 1);
+            is(one("wear1if1<2" + "and1<2".repeat(65)).does(0, 0), 1);
+            is(one("wear1if1<2" + "and1<2".repeat(64) + "and2<1").does(0, 0), 0);
         });
         test("Terms, SUM < SUM", "SUM < SUM", () -> {
             is(one("wear 1 if 3 < 3").does(0, 0), 0);
