@@ -254,6 +254,26 @@ final class BoundsOfActs extends Bounds {
             is(isle.undo(), true);
             is(isle.count(3), 66);
         });
+        test("Terms, UNDONE", "UNDONE: the latest ACT not undone yet", () -> {
+            HalfIsle isle = isle(ITEM);
+            isle.carry(0, 1);
+            isle.carry(0, 2);
+            is(isle.undo(), true);
+            isle.carry(0, 3);
+            is(isle.count(11), 2);
+            is(isle.undo(), true);
+            is(isle.item(0, 0), 1);
+            is(isle.undo(), true);
+            is(isle.item(0, 0), 0);
+            is(isle.undo(), false);
+            // an ACT by which nothing is otherwise is one, too
+            isle.sweep(0);
+            isle.mend(0);
+            isle.carry(0, 0);
+            is(isle.count(11), 3);
+            is(isle.undo(), true);
+            is(isle.count(11), 2);
+        });
         test("Terms, UNDONE", "all is as ahead of it (but for the TAPE, fault(), THE IMAGE)", () -> {
             HalfIsle isle = isle(ITEM + "; soil 0 40; storm 100", "wear 1; shift 1; soil 1");
             isle.days(400);

@@ -303,6 +303,39 @@ final class BoundsOfDays extends Bounds {
             is(isle.log(0, 2), 0);
             is(isle.log(0, 3), 0);
         });
+        test("Terms, LED, 49 led",
+                "LED by THE LOG: how often a SIDE left; what it OWED more by these together.", () -> {
+            // what THE LOG has no more counts no more: SIDE 0 OWED 7 at the first EQUINOX alone
+            HalfIsle isle = isle("item 7 home 0 side 1; day 181");
+            isle.carry(0, 1);
+            isle.days(1);
+            deed(isle, "day 0");
+            days(isle, 182 * 54);
+            deed(isle, "day 0");
+            days(isle, 182 * 5);
+            is(isle.count(10), 60);
+            is(isle.led(0, false), 31);
+            is(isle.led(0, true), 7);
+            is(isle.led(1, false), 29);
+            is(isle.led(1, true), 0);
+            isle.days(182);
+            is(isle.led(0, false), 30);
+            is(isle.led(0, true), 0);
+            is(isle.led(1, false), 30);
+            is(isle.side(0, 1), 7);
+        });
+        test("Promise 50 log", "THE LOG so many ago (0 the latest)", () -> {
+            HalfIsle isle = isle("day 363");
+            isle.days(1);
+            is(isle.log(0, 0), 363);
+            is(isle.log(0, 1), 1);
+            isle.days(182);
+            is(isle.log(0, 0), 545);
+            is(isle.log(0, 1), 0);
+            is(isle.log(1, 0), 363);
+            is(isle.log(1, 1), 1);
+            is(isle.log(2, 0), HalfIsle.NONE);
+        });
         test("Promise 50 log", "NONE without.", () -> {
             HalfIsle isle = new HalfIsle();
             is(isle.log(0, 0), HalfIsle.NONE);

@@ -175,6 +175,22 @@ final class BoundsOfLaws extends Bounds {
                 is(isle.does(0, 2), 1 - told[i]);
             }
         });
+        test("Terms, own and home of THE LAW",
+                "own: it is of the SIDE that is THERE; home: it is at its HOME.", () -> {
+            HalfIsle isle = isle("item 5 home 0 side 0; item 5 home 0 side 1 in 5", "wear 1 if own; soil 1 if home");
+            is(isle.does(0, 0), 1);
+            is(isle.does(1, 0), 0);
+            is(isle.does(0, 2), 1);
+            is(isle.does(1, 2), 0);
+            deed(isle, "day 181");
+            is(isle.does(0, 0), 1);
+            is(isle.does(1, 0), 0);
+            deed(isle, "day 182");
+            is(isle.does(0, 0), 0);
+            is(isle.does(1, 0), 1);
+            isle.carry(1, 0);
+            is(isle.does(1, 2), 1);
+        });
         test("Terms, soiled of THE LAW", "soiled: SOIL of its ROOM", () -> {
             HalfIsle isle = isle("item 5 home 0 side 0 in 5; soil 0 7; soil 5 99",
                     "wear 1 if soiled > 98; soil 1 if soiled < 99");

@@ -315,6 +315,21 @@ final class BoundsOfPlans extends Bounds {
             is(isle("soil 0 1").lighten(1), 0);
             is(new HalfIsle().lighten(0), 0);
         });
+        test("Terms, LIGHTEN", "LIGHTEN to N (0 to 9999): the fewest ITEMS", () -> {
+            HalfIsle isle = isle(lines("item 99 home 0 side 0", 12), "wear 20; soil 20");
+            for (int i = 0; i < 12; i++) {
+                isle.carry(i, 3);
+            }
+            isle.days(5);
+            isle.sweep(3);
+            is(isle.due(), 2 * 1188);
+            is(isle.lighten(0), 4095);
+            is(isle.lighten(9999), 0);
+            is(isle.lighten(2 * 1188), 0);
+            is(isle.lighten(2 * 1188 - 1), 1);
+            none(() -> isle.lighten(-1));
+            none(() -> isle.lighten(10000));
+        });
         test("Promise 33 lighten", "LIGHTEN, as bits; NONE. IllegalArgumentException: N is none.", () -> {
             HalfIsle isle = new HalfIsle();
             none(() -> isle.lighten(-1));
